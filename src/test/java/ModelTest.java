@@ -2,7 +2,7 @@ import java.util.Random;
 
 /** Long runs of calls, always the same ones, whose answers must be those of the model. */
 public final class ModelTest {
-    private static final int RUNS = 1500;
+    private static final int RUNS = 4000;
     private static final int CALLS = 512;
     private static final String SIGNS = "0123456789:;:;:;012345/<!~";
 
@@ -11,6 +11,7 @@ public final class ModelTest {
     private final Model model = new Model();
     private final StringBuilder told = new StringBuilder();
     private boolean differs = false;
+    private int calls = 0;
 
     private ModelTest(long seed) {
         random = new Random(seed);
@@ -19,7 +20,7 @@ public final class ModelTest {
     public static void main(String[] args) {
         for (int seed = 0; seed < RUNS; seed++) {
             ModelTest run = new ModelTest(seed);
-            for (int call = 0; call < CALLS && !run.differs; call++) {
+            while (run.calls < CALLS && !run.differs) {
                 run.call();
             }
             if (run.differs) {
@@ -31,6 +32,10 @@ public final class ModelTest {
     }
 
     private void same(String call, int got, int want) {
+        calls++;
+        if (calls > CALLS) {
+            return;
+        }
         told.append(call).append(" = ").append(got).append('\n');
         if (got != want) {
             told.append("  due is ").append(want).append('\n');

@@ -790,16 +790,14 @@ public final class PromisesTest {
     // Promise 21
     private static void undo() {
         PegClerks x = new PegClerks();
-        String[] states = new String[10];
         for (int done = 0; done < 9; done++) {
-            states[done] = Checks.state(x, false);
             change(x, done);
             due("21: changes that can be undone", x.count(19), Math.min(done + 1, 6));
         }
         Checks.write(x, "12");
         for (int left = 5; left >= 0; left--) {
             due("21: undo()", x.undo(), left);
-            Checks.sameState("21: the state with " + left + " left", Checks.state(x, false), states[left + 3]);
+            Checks.sameState("21: the state with " + left + " left", Checks.state(x, false), stateBehind(left + 3));
         }
         due("21: undo() of nothing", x.undo(), NOT_POSSIBLE);
         due("21: the pad stays", x.count(18), 2);
@@ -831,6 +829,14 @@ public final class PromisesTest {
         due("21: the slots stay", y.restore(0), 1);
         due("21: undo() of a restore", y.undo(), 0);
         due("21: the drum is empty again", y.count(15), 0);
+    }
+
+    private static String stateBehind(int changes) {
+        PegClerks x = new PegClerks();
+        for (int done = 0; done < changes; done++) {
+            change(x, done);
+        }
+        return Checks.state(x, false);
     }
 
     private static void change(PegClerks x, int which) {
